@@ -962,7 +962,181 @@ public final class ModelTests {
         }
     }
 
+    /** Splits on a random variable until a clause is false; writes the splits' negation behind both branches. */
+    private static void split(Random random, List<int[]> rows, int variables, List<Integer> path, List<int[]> lemmas) {
+        for (int[] row : rows) {
+            boolean isFalse = true;
+            for (int literal : row) {
+                isFalse &= path.contains(-literal);
+            }
+            if (isFalse) {
+                return;
+            }
+        }
+        if (path.size() == variables || lemmas.size() > 250) {
+            return;
+        }
+        int variable = 1 + random.nextInt(variables);
+        while (path.contains(variable) || path.contains(-variable)) {
+            variable = 1 + random.nextInt(variables);
+        }
+        for (int literal : new int[] {variable, -variable}) {
+            path.add(literal);
+            split(random, rows, variables, path, lemmas);
+            int[] lemma = new int[path.size()];
+            for (int i = 0; i < lemma.length; i++) {
+                lemma[i] = -path.get(i);
+            }
+            lemmas.add(lemma);
+            path.remove(path.size() - 1);
+        }
+    }
+
+    private static String head(int variables, List<int[]> rows) {
+        StringBuilder f = new StringBuilder("p cnf " + variables + " " + rows.size() + "\nc a line that counts for nothing\n");
+        for (int[] row : rows) {
+            f.append(textOf(row));
+        }
+        return f.toString();
+    }
+
+    private static List<int[]> randomRows(Random random, int variables, int count) {
+        List<int[]> rows = new ArrayList<>();
+        for (int i = 0; i < count; i++) {
+            int[] row = row(random, variables, 3);
+            rows.add(row.length == 0 || row.length == 1 && random.nextInt(20) != 0 ? new int[] {1, 2, 3} : row);
+        }
+        return rows;
+    }
+
+    /** Proofs by a search, most of which are verified late, with deletions among them. */
+    private static void searchedProofs() {
+        for (int seed = 1; seed <= 400; seed++) {
+            Random random = new Random(seed);
+            int variables = 3 + random.nextInt(6);
+            List<int[]> rows = randomRows(random, variables, 5 * variables + random.nextInt(20));
+            List<int[]> lemmas = new ArrayList<>();
+            split(random, rows, variables, new ArrayList<>(), lemmas);
+            StringBuilder t = new StringBuilder();
+            List<int[]> known = new ArrayList<>(rows);
+            int deletions = 0;
+            for (int[] lemma : lemmas) {
+                t.append(textOf(lemma));
+                known.add(lemma);
+                if (random.nextInt(12) == 0 && deletions++ < 40) {
+                    t.append("d ").append(textOf(shuffled(random, known.remove(random.nextInt(known.size())))));
+                }
+            }
+            t.append("0\n");
+            story = "searched proofs, seed " + seed;
+            Pair pair = new Pair();
+            pair.formula(bytesOf(head(variables, rows)));
+            pair.proof(bytesOf(t.toString()), false);
+            weighRandomly(random, pair, 5);
+        }
+    }
+
+    /** Each clause is said again with a new name for a variable, which only RAT allows; the old ones go. */
+    private static void renamedProofs() {
+        for (int seed = 1; seed <= 400; seed++) {
+            Random random = new Random(seed);
+            int variables = 3 + random.nextInt(3);
+            List<int[]> rows = randomRows(random, variables, 6 * variables + random.nextInt(10));
+            int fresh = variables + 1;
+            int old = 1 + random.nextInt(variables);
+            List<int[]> named = new ArrayList<>();
+            StringBuilder t = new StringBuilder();
+            t.append(textOf(new int[] {fresh, -old})).append(textOf(new int[] {-fresh, old}));
+            for (int[] row : rows) {
+                int[] again = row.clone();
+                for (int j = 0; j < again.length; j++) {
+                    again[j] = again[j] == old ? fresh : again[j] == -old ? -fresh : again[j];
+                }
+                named.add(again);
+                t.append(textOf(again));
+                if (random.nextInt(3) != 0) {
+                    t.append("d ").append(textOf(shuffled(random, row)));
+                }
+            }
+            List<int[]> lemmas = new ArrayList<>();
+            split(random, named, fresh, new ArrayList<>(), lemmas);
+            for (int[] lemma : lemmas.subList(0, Math.min(lemmas.size(), 200))) {
+                t.append(textOf(lemma));
+            }
+            story = "renamed proofs, seed " + seed;
+            Pair pair = new Pair();
+            pair.formula(bytesOf(head(variables, rows)));
+            pair.proof(bytesOf(t.toString()), false);
+            weighRandomly(random, pair, 4);
+        }
+    }
+
+    /** Lemmas that need long chains, so that there is no room for all hints. */
+    private static void longChains() {
+        for (int seed = 1; seed <= 12; seed++) {
+            Random random = new Random(seed);
+            StringBuilder f = new StringBuilder("p cnf 100 101\n");
+            for (int i = 1; i < 100; i++) {
+                f.append(textOf(new int[] {-i, i + 1}));
+            }
+            f.append("-99 100 0\n1 50 0\n");
+            StringBuilder t = new StringBuilder();
+            for (int i = 0; i < 200; i++) {
+                int first = 1 + random.nextInt(20);
+                int last = 80 + random.nextInt(20);
+                t.append(random.nextBoolean() ? textOf(new int[] {-first, last, 101 + i % 49})
+                        : textOf(new int[] {last, -first}));
+            }
+            t.append("-100 0\n");
+            story = "long chains, seed " + seed;
+            Pair pair = new Pair();
+            pair.formula(bytesOf(f.toString()));
+            pair.proof(bytesOf(t.toString()), false);
+            pair.weigh(seed % 2 == 0, true, false, 20000);
+            pair.shorten();
+        }
+    }
+
+    /** Deletions of long clauses, which are longer as text than the tape is. */
+    private static void longOuts() {
+        for (int size = 5988; size <= 6012; size++) {
+            StringBuilder f = new StringBuilder();
+            StringBuilder b = new StringBuilder();
+            int rows = 0;
+            for (int room = size; room > 0; rows++) {
+                List<Integer> row = new ArrayList<>();
+                int bytes = 4;
+                // Numbers of one to four letters with a blank: the last row takes just what is left.
+                while (bytes < 180 && bytes < room) {
+                    int letters = Math.min(5, room - bytes);
+                    int literal = letters < 2 ? 0 : letters == 2 ? 7 : letters == 3 ? -7 : letters == 4 ? -77 : -100 - row.size();
+                    if (literal == 0) {
+                        bytes = room;
+                    } else {
+                        row.add(literal);
+                        bytes += letters;
+                    }
+                }
+                room -= bytes;
+                int[] literals = row.stream().mapToInt(i -> i).toArray();
+                f.append(textOf(literals));
+                b.append(bytesTextOf(true, literals));
+            }
+            story = "long outs, " + size;
+            Pair pair = new Pair();
+            pair.formula(bytesOf("p cnf 150 " + rows + "\n" + f));
+            pair.proof(bytesOf(b.toString()), true);
+            pair.weigh(false, false, false, 20000);
+            pair.shorten();
+            pair.take();
+        }
+    }
+
     public static void main(String[] args) {
+        searchedProofs();
+        renamedProofs();
+        longChains();
+        longOuts();
         smallProofs();
         largeProofs();
         cubes();
