@@ -856,11 +856,11 @@ public final class ClauseCourt {
 
         /** Nothing is marked, and the clauses of the formula are active. */
         void begin(int fuelAtFirst) {
+            forget();
             fuel = fuelAtFirst;
             trailLength = 0;
             shortCount = 0;
             values.fill(0);
-            marked.fill(0);
             for (int k = 1; k <= clauses.inAll(); k++) {
                 active.put(k, k <= clauses.ofFormula() ? 1 : 0);
                 left.put(k, clauses.size(k));
@@ -1129,7 +1129,6 @@ public final class ClauseCourt {
         private final Row removed = new Row(MAX_STEPS + 1);
         private boolean ratAllowed = false;
         private boolean unitsKept = false;
-        private boolean weighed = false;
         private int verdict = NONE;
         private int failedStep = NONE;
         private int conflictStep = NONE;
@@ -1145,7 +1144,6 @@ public final class ClauseCourt {
             propagation.forget();
             hints.clear();
             removed.fill(0);
-            weighed = false;
             verdict = NONE;
             failedStep = NONE;
             conflictStep = NONE;
@@ -1155,7 +1153,6 @@ public final class ClauseCourt {
 
         void begin(boolean rat, boolean units, int fuel) {
             forget();
-            weighed = true;
             ratAllowed = rat;
             unitsKept = units;
             propagation.begin(fuel);
@@ -1236,10 +1233,8 @@ public final class ClauseCourt {
             return hints.at(k, j);
         }
 
+        /** Without a weighing nothing is marked or removed, and so none of the steps stays. */
         int lastStepWeighed() {
-            if (!weighed) {
-                return 0;
-            }
             return conflictStep == NONE ? clauses.steps() : conflictStep;
         }
 

@@ -863,7 +863,7 @@ public final class ModelTests {
     private static void largeProofs() {
         for (int seed = 1; seed <= 60; seed++) {
             Random random = new Random(seed);
-            int variables = 4 + random.nextInt(147);
+            int variables = seed % 3 == 0 ? 150 : 4 + random.nextInt(147);
             Sample sample = new Sample(random, variables, 100 + random.nextInt(200), 300, 4 + random.nextInt(3));
             story = "large proofs, seed " + seed;
             Pair pair = new Pair();
@@ -1132,6 +1132,33 @@ public final class ModelTests {
         }
     }
 
+    /** As many different literals as there can be, in a formula and in a proof together. */
+    private static void fullClauses() {
+        for (int seed = 1; seed <= 20; seed++) {
+            Random random = new Random(seed);
+            StringBuilder f = new StringBuilder("p cnf 150 50\n");
+            StringBuilder b = new StringBuilder();
+            for (int i = 0; i < 50; i++) {
+                int[] small = new int[40];
+                int[] large = new int[40];
+                for (int j = 0; j < 40; j++) {
+                    small[j] = (j < 9 && random.nextInt(3) == 0 ? -1 : 1) * (j + 1);
+                    large[j] = (random.nextInt(4) == 0 ? -1 : 1) * (j + 1 + (random.nextInt(3) == 0 ? 110 : 0));
+                }
+                f.append(textOf(shuffled(random, small)));
+                b.append(bytesTextOf(random.nextInt(9) == 0, shuffled(random, random.nextInt(4) == 0 ? small : large)));
+            }
+            story = "full clauses, seed " + seed;
+            Pair pair = new Pair();
+            pair.formula(bytesOf(f.toString()));
+            pair.proof(bytesOf(b.toString()), true);
+            for (int i = 0; i < 4; i++) {
+                pair.weigh((i & 1) != 0, (i & 2) != 0, false, 20000);
+                pair.shorten();
+            }
+        }
+    }
+
     public static void main(String[] args) {
         searchedProofs();
         renamedProofs();
@@ -1142,6 +1169,7 @@ public final class ModelTests {
         cubes();
         brokenTexts();
         fullTexts();
+        fullClauses();
         System.out.println(seen);
         System.out.println(wrong == 0 ? "all answers are the model's" : wrong + " answers are not the model's");
         if (wrong != 0) {

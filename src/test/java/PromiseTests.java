@@ -433,6 +433,15 @@ public final class PromiseTests {
         counts("only the first literal", s, 1, 1, NONE, 20000 - 2 - 3 - 3, 0, 0, 0, 0);
     }
 
+    private static void theGreatestVariable() {
+        ClauseCourt x = court("p cnf 150 3 149 150 0 149 -150 0 -149 150 0", "150 0 -150 0");
+        due("the greatest variable", 1, () -> x.weigh(true, false, false, 20000));
+        // 150 by 4, then 149 by 2; then 5 is false.
+        hints("the greatest variable", x, 0, 4, 5);
+        counts("the greatest variable", x, 1, 2, 2, 20000 - 2 - 2 - 2, 0, 2, 0, 0);
+        hints("the greatest variable", x, 5);
+    }
+
     private static void markedAhead() {
         // Lemma 5 uses 3 and 4; so 1 comes from 3 ahead of 2 when the next one is weighed.
         ClauseCourt x = court("p cnf 4 4 -4 1 0 -4 2 0 -3 1 0 -1 -3 0", "-3 0 -4 -3 1 0");
@@ -586,6 +595,7 @@ public final class PromiseTests {
         nothingContradicts();
         tautologies();
         rat();
+        theGreatestVariable();
         markedAhead();
         deletions();
         clausesAndSteps();
